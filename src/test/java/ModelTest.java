@@ -14,7 +14,7 @@ public final class ModelTest {
     /** How often each call is drawn, by manner of the run. */
     private static final int[][] WEIGHTS = {
         {1, 1, 8, 14, 12, 12, 5, 5, 6, 6, 6, 3, 4, 6, 8, 10},
-        {0, 0, 3, 9, 9, 40, 1, 1, 1, 2, 2, 1, 1, 2, 10, 6},
+        {0, 0, 3, 9, 9, 60, 0, 1, 1, 2, 2, 1, 1, 2, 10, 6},
         {0, 0, 12, 20, 25, 3, 5, 1, 1, 2, 2, 1, 1, 2, 6, 6},
         {0, 1, 6, 12, 4, 4, 10, 14, 14, 8, 8, 2, 4, 10, 2, 6},
     };
@@ -77,7 +77,7 @@ public final class ModelTest {
             case "deal":
                 return new int[] {seat(random), number(random, q), number(random, q), number(random, q)};
             case "fault":
-                return new int[] {seat(random), random.nextInt(20) == 0 ? -1 + 8 * random.nextInt(2) : random.nextInt(7), 0};
+                return new int[] {seat(random), kind(random), 0};
             case "answer":
                 return new int[] {seat(random), seat(random), 0};
             case "post":
@@ -95,6 +95,10 @@ public final class ModelTest {
 
     private static int seat(Random random) {
         return random.nextInt(30) == 0 ? 8 * random.nextInt(2) : 1 + random.nextInt(7);
+    }
+
+    private static int kind(Random random) {
+        return random.nextInt(20) == 0 ? 8 * random.nextInt(2) - 1 : random.nextInt(7);
     }
 
     private static int number(Random random, int q) {

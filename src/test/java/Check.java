@@ -1,15 +1,22 @@
+import java.util.Arrays;
+import java.util.List;
+import java.util.NoSuchElementException;
+import java.util.function.Supplier;
+
 /** Counts the answers that are not as due, and ends a test with exit code 1 if there were any. */
 final class Check {
     static final Class<IllegalStateException> NOT_FOUNDED = IllegalStateException.class;
-    static final Class<java.util.NoSuchElementException> NO_SEAT = java.util.NoSuchElementException.class;
+    static final Class<NoSuchElementException> NO_SEAT = NoSuchElementException.class;
     static final Class<IllegalArgumentException> WRONG = IllegalArgumentException.class;
     static final Class<IndexOutOfBoundsException> OUTSIDE = IndexOutOfBoundsException.class;
     static final Class<UnsupportedOperationException> NOT_NOW = UnsupportedOperationException.class;
 
-    private int wrong;
-
     /** Keeper i's seat is the place in the row, from 1 on. */
     static final int[] FIRST_SHARES = {0, 60, 31, 98, 0, 82, 83, 45};
+    /** What is sent by a dealing of 3, 4, 5. */
+    static final int[] SENT = {0, 12, 62, 79, 93, 33, 30, 13};
+
+    private int wrong;
 
     static KeyCustody grouped() {
         KeyCustody custody = new KeyCustody();
@@ -24,11 +31,15 @@ final class Check {
         return custody;
     }
 
-    /** Seat 1 is of this kind and has dealt 3, 4, 5: the shares 12, 62, 79, 93, 33, 30, 13 by seat. */
+    /** Seat 1 is of this kind and has dealt 3, 4, 5. */
     static KeyCustody dealt(int kind) {
+        return dealt(1, kind);
+    }
+
+    static KeyCustody dealt(int dealer, int kind) {
         KeyCustody custody = founded();
-        custody.fault(1, kind);
-        custody.deal(1, 3, 4, 5);
+        custody.fault(dealer, kind);
+        custody.deal(dealer, 3, 4, 5);
         return custody;
     }
 
@@ -38,6 +49,25 @@ final class Check {
         for (int n = 1; n < posts; n++) {
             custody.answer(1, 2);
         }
+        return custody;
+    }
+
+    /** Something of everything, in week 2: posts, faults, open and settled complaints, a wiped share. */
+    static KeyCustody busy() {
+        KeyCustody custody = dealt(5);
+        custody.look(2);
+        custody.answer(1, 2);
+        custody.close();
+        custody.fault(1, 2);
+        custody.fault(4, 4);
+        custody.fault(6, 1);
+        custody.deal(1, 1, 2, 3);
+        custody.deal(6, 4, 5, 6);
+        custody.deal(7, 7, 8, 9);
+        custody.look(2);
+        custody.look(4);
+        custody.answer(7, 4);
+        custody.wipe(3);
         return custody;
     }
 
@@ -53,13 +83,26 @@ final class Check {
         }
     }
 
-    void refused(String call, Class<? extends RuntimeException> want, Runnable made) {
-        try {
-            made.run();
-            report(call, "without an exception", want.getSimpleName());
-        } catch (RuntimeException e) {
-            if (e.getClass() != want) {
-                report(call, e.getClass().getSimpleName(), want.getSimpleName());
+    /** The call throws this and changes nothing: behind it, the object answers as one made alike without it. */
+    void refused(String when, Class<? extends RuntimeException> want, Supplier<KeyCustody> maker, String name,
+            int... with) {
+        String call = name + Arrays.toString(with) + ", " + when + ",";
+        KeyCustody custody = maker.get();
+        String got = Calls.outcome(custody, name, with);
+        if (!got.equals(want.getSimpleName())) {
+            report(call, got, want.getSimpleName());
+        }
+        alike("behind the refused " + call, custody, maker.get());
+    }
+
+    /** Whether one object answers as the other from now on; it tells the first call that they differ in. */
+    void alike(String when, KeyCustody custody, KeyCustody other) {
+        List<String> got = Probe.answers(custody);
+        List<String> want = Probe.answers(other);
+        for (int i = 0; i < Math.min(got.size(), want.size()); i++) {
+            if (!got.get(i).equals(want.get(i))) {
+                report(when, got.get(i), want.get(i));
+                return;
             }
         }
     }

@@ -301,6 +301,10 @@ final class Model {
         }
     }
 
+    int postCount() {
+        return posts.size();
+    }
+
     private static int asSum(Iterable<Integer> seats) {
         int sum = 0;
         for (int seat : seats) {

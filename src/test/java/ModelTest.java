@@ -39,8 +39,8 @@ public final class ModelTest {
         int q = group[1];
         for (int n = 0; n < CALLS; n++) {
             int call = n > 1 || run % 10 == 9 ? drawn(random, weights) : n;
-            int[] with = n == 0 && call == 0 ? group : arguments(random, call, q, custody.about(1));
-            String got = outcome(custody, call, with);
+            int[] with = n == 0 && call == 0 ? group : arguments(random, call, q, model.postCount());
+            String got = Calls.outcome(custody, NAMES[call], with);
             String want = model.outcome(NAMES[call], with);
             if (call == 0 && got.equals("done")) {
                 q = with[1];
@@ -107,30 +107,5 @@ public final class ModelTest {
             return -1;
         }
         return drawn == 1 ? q : random.nextInt(q);
-    }
-
-    private static String outcome(KeyCustody x, int call, int[] a) {
-        try {
-            switch (NAMES[call]) {
-                case "group": x.group(a[0], a[1], a[2]); return "done";
-                case "found": x.found(a[0], a[1], a[2], a[3]); return "done";
-                case "fault": x.fault(a[0], a[1]); return "done";
-                case "deal": x.deal(a[0], a[1], a[2], a[3]); return "done";
-                case "wipe": x.wipe(a[0]); return "done";
-                case "look": return "" + x.look(a[0]);
-                case "answer": return "" + x.answer(a[0], a[1]);
-                case "close": return "" + x.close();
-                case "recover": return "" + x.recover(a[0]);
-                case "share": return "" + x.share(a[0]);
-                case "fits": return "" + x.fits(a[0]);
-                case "sum": return "" + x.sum(a[0]);
-                case "element": return "" + x.element(a[0]);
-                case "reconstruct": return "" + x.reconstruct(a[0]);
-                case "post": return "" + x.post(a[0], a[1]);
-                default: return "" + x.about(a[0]);
-            }
-        } catch (RuntimeException e) {
-            return e.getClass().getSimpleName();
-        }
     }
 }

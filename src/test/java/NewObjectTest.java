@@ -1,12 +1,17 @@
-/** Promise 1, and that every call but group() and about() needs a founding ahead of all else. */
+import java.util.function.Supplier;
+
+/** Promise 1, and what "Terms" says of all calls: a founding ahead of all else, then a seat that there is. */
 public final class NewObjectTest {
     private static final Check CHECK = new Check();
 
     public static void main(String[] args) {
         CHECK.due("NONE", KeyCustody.NONE, -1);
         nothingStandsInANewObject();
-        nothingIsFoundedByAGroup();
+        foundNeedsAGroupAheadOfAllElse();
+        everyCallNeedsAFoundingAheadOfAllElse();
+        everyCallIsTakenBehindAFounding();
         aSeatComesAheadOfTheRest();
+        theFirstAndTheLastSeatAreTaken();
         objectsAreApart();
         CHECK.end();
     }
@@ -16,61 +21,140 @@ public final class NewObjectTest {
         for (int what = 0; what <= 6; what++) {
             CHECK.due("about(" + what + ")", x.about(what), 0);
         }
-        CHECK.refused("found without a group", Check.NOT_FOUNDED, () -> x.found(1, 2, 3, 4));
-        CHECK.refused("found(-1) without a group", Check.NOT_FOUNDED, () -> x.found(-1, 2, 3, 4));
-        everyCallIsRefused(x);
     }
 
-    private static void nothingIsFoundedByAGroup() {
-        everyCallIsRefused(Check.grouped());
-        KeyCustody again = Check.founded();
-        again.group(23, 11, 2);
-        everyCallIsRefused(again);
+    private static void foundNeedsAGroupAheadOfAllElse() {
+        for (int a : new int[] {-1, 0, 1, Integer.MAX_VALUE}) {
+            CHECK.refused("without a group", Check.NOT_FOUNDED, KeyCustody::new, "found", a, 0, 0, 0);
+            CHECK.refused("with a refused one", Check.NOT_FOUNDED, NewObjectTest::refusedGroup, "found", a, 0, 0, 0);
+        }
+        KeyCustody grouped = Check.grouped();
+        grouped.found(1, 2, 3, 4);
+        CHECK.due("about(0) with a group", grouped.about(0), 1);
     }
 
-    /** With wrong arguments, so that a later test would answer otherwise. */
-    private static void everyCallIsRefused(KeyCustody x) {
-        CHECK.refused("fault", Check.NOT_FOUNDED, () -> x.fault(0, 9));
-        CHECK.refused("deal", Check.NOT_FOUNDED, () -> x.deal(0, -1, 0, 0));
-        CHECK.refused("look", Check.NOT_FOUNDED, () -> x.look(0));
-        CHECK.refused("answer", Check.NOT_FOUNDED, () -> x.answer(0, 0));
-        CHECK.refused("close", Check.NOT_FOUNDED, x::close);
-        CHECK.refused("wipe", Check.NOT_FOUNDED, () -> x.wipe(0));
-        CHECK.refused("recover", Check.NOT_FOUNDED, () -> x.recover(8));
-        CHECK.refused("share", Check.NOT_FOUNDED, () -> x.share(8));
-        CHECK.refused("share(1)", Check.NOT_FOUNDED, () -> x.share(1));
-        CHECK.refused("fits", Check.NOT_FOUNDED, () -> x.fits(8));
-        CHECK.refused("sum", Check.NOT_FOUNDED, () -> x.sum(4));
-        CHECK.refused("sum(0)", Check.NOT_FOUNDED, () -> x.sum(0));
-        CHECK.refused("element", Check.NOT_FOUNDED, () -> x.element(8));
-        CHECK.refused("reconstruct", Check.NOT_FOUNDED, () -> x.reconstruct(128));
-        CHECK.refused("reconstruct(15)", Check.NOT_FOUNDED, () -> x.reconstruct(15));
-        CHECK.refused("post", Check.NOT_FOUNDED, () -> x.post(0, 9));
+    private static KeyCustody refusedGroup() {
+        KeyCustody x = new KeyCustody();
+        Calls.outcome(x, "group", 607, 101, 1);
+        return x;
+    }
+
+    private static KeyCustody refusedFound() {
+        KeyCustody x = Check.grouped();
+        Calls.outcome(x, "found", 1, 2, 3, 101);
+        return x;
+    }
+
+    private static KeyCustody groupedAnew() {
+        KeyCustody x = Check.busy();
+        x.group(607, 101, 64);
+        return x;
+    }
+
+    private static void everyCallNeedsAFoundingAheadOfAllElse() {
+        everyCallIsRefused("in a new object", KeyCustody::new);
+        everyCallIsRefused("behind a refused group", NewObjectTest::refusedGroup);
+        everyCallIsRefused("with a group", Check::grouped);
+        everyCallIsRefused("behind a refused found", NewObjectTest::refusedFound);
+        everyCallIsRefused("behind a new group", NewObjectTest::groupedAnew);
+    }
+
+    /** With right arguments, and with wrong ones, so that a later test would answer otherwise. */
+    private static void everyCallIsRefused(String when, Supplier<KeyCustody> maker) {
+        for (int seat : new int[] {0, 1, 7, 8}) {
+            for (String name : new String[] {"look", "wipe", "recover", "share", "fits", "element"}) {
+                CHECK.refused(when, Check.NOT_FOUNDED, maker, name, seat);
+            }
+            CHECK.refused(when, Check.NOT_FOUNDED, maker, "fault", seat, 1);
+            CHECK.refused(when, Check.NOT_FOUNDED, maker, "fault", seat, 7);
+            CHECK.refused(when, Check.NOT_FOUNDED, maker, "deal", seat, 1, 2, 3);
+            CHECK.refused(when, Check.NOT_FOUNDED, maker, "deal", seat, -1, 2, 3);
+            CHECK.refused(when, Check.NOT_FOUNDED, maker, "answer", seat, 1);
+            CHECK.refused(when, Check.NOT_FOUNDED, maker, "answer", 1, seat);
+        }
+        CHECK.refused(when, Check.NOT_FOUNDED, maker, "close");
+        for (int j : new int[] {-1, 0, 3, 4}) {
+            CHECK.refused(when, Check.NOT_FOUNDED, maker, "sum", j);
+        }
+        for (int some : new int[] {-1, 0, 15, 127, 128}) {
+            CHECK.refused(when, Check.NOT_FOUNDED, maker, "reconstruct", some);
+        }
+        for (int n : new int[] {-1, 0, 250}) {
+            CHECK.refused(when, Check.NOT_FOUNDED, maker, "post", n, 0);
+            CHECK.refused(when, Check.NOT_FOUNDED, maker, "post", n, 9);
+        }
+    }
+
+    private static void everyCallIsTakenBehindAFounding() {
+        KeyCustody x = Check.founded();
+        x.fault(1, 4);
+        x.deal(1, 3, 4, 5);
+        CHECK.due("look(1)", x.look(1), 1);
+        CHECK.due("answer(1, 1)", x.answer(1, 1), true);
+        CHECK.due("post(2, 3)", x.post(2, 3), 12);
+        CHECK.due("close()", x.close(), 1);
+        x.wipe(7);
+        CHECK.due("recover(7)", x.recover(7), 15);
+        CHECK.due("share(7)", x.share(7), 58);
+        CHECK.due("fits(7)", x.fits(7), true);
+        CHECK.due("sum(0)", x.sum(0), 339);
+        CHECK.due("element(7)", x.element(7), 214);
+        CHECK.due("reconstruct(15)", x.reconstruct(15), 42);
+    }
+
+    /** The board is full, three others are faulty, seats 3 to 7 are wiped: each call has more to refuse. */
+    private static KeyCustody atEveryBound() {
+        KeyCustody x = Check.boardWith(250);
+        for (int seat = 3; seat <= 5; seat++) {
+            x.fault(seat, 4);
+        }
+        for (int seat = 3; seat <= 7; seat++) {
+            x.wipe(seat);
+        }
+        return x;
     }
 
     private static void aSeatComesAheadOfTheRest() {
-        KeyCustody x = Check.boardWith(250);
-        x.wipe(1);
+        Supplier<KeyCustody> maker = NewObjectTest::atEveryBound;
+        String why = "a seat that there isn't";
         for (int seat : new int[] {0, 8, -1, 9, Integer.MIN_VALUE, Integer.MAX_VALUE}) {
-            CHECK.refused("fault of seat " + seat, Check.NO_SEAT, () -> x.fault(seat, 7));
-            CHECK.refused("deal of seat " + seat, Check.NO_SEAT, () -> x.deal(seat, 101, 0, 0));
-            CHECK.refused("look of seat " + seat, Check.NO_SEAT, () -> x.look(seat));
-            CHECK.refused("answer of seat " + seat, Check.NO_SEAT, () -> x.answer(seat, 1));
-            CHECK.refused("answer to seat " + seat, Check.NO_SEAT, () -> x.answer(3, seat));
-            CHECK.refused("wipe of seat " + seat, Check.NO_SEAT, () -> x.wipe(seat));
-            CHECK.refused("recover of seat " + seat, Check.NO_SEAT, () -> x.recover(seat));
-            CHECK.refused("share of seat " + seat, Check.NO_SEAT, () -> x.share(seat));
-            CHECK.refused("fits of seat " + seat, Check.NO_SEAT, () -> x.fits(seat));
-            CHECK.refused("element of seat " + seat, Check.NO_SEAT, () -> x.element(seat));
+            for (String name : new String[] {"look", "wipe", "recover", "share", "fits", "element"}) {
+                CHECK.refused(why, Check.NO_SEAT, maker, name, seat);
+            }
+            CHECK.refused(why, Check.NO_SEAT, maker, "fault", seat, 1);
+            CHECK.refused(why, Check.NO_SEAT, maker, "fault", seat, 7);
+            CHECK.refused(why, Check.NO_SEAT, maker, "deal", seat, 1, 2, 3);
+            CHECK.refused(why, Check.NO_SEAT, maker, "deal", seat, 101, 0, 0);
+            CHECK.refused(why, Check.NO_SEAT, maker, "answer", seat, 1);
+            CHECK.refused(why, Check.NO_SEAT, maker, "answer", 1, seat);
+            CHECK.refused(why, Check.NO_SEAT, maker, "answer", 3, seat);
+            CHECK.refused(why, Check.NO_SEAT, maker, "answer", seat, seat);
+        }
+    }
+
+    private static void theFirstAndTheLastSeatAreTaken() {
+        for (int seat : new int[] {1, 7}) {
+            KeyCustody x = Check.founded();
+            x.fault(seat, 4);
+            x.deal(seat, 3, 4, 5);
+            CHECK.due("look(" + seat + ")", x.look(seat), 1);
+            CHECK.due("answer of and to " + seat, x.answer(seat, seat), true);
+            x.wipe(seat);
+            CHECK.due("recover(" + seat + ")", x.recover(seat), seat == 1 ? 30 : 15);
+            CHECK.due("share(" + seat + ")", x.share(seat), Check.FIRST_SHARES[seat]);
+            CHECK.due("fits(" + seat + ")", x.fits(seat), true);
+            CHECK.due("element(" + seat + ")", x.element(seat), seat == 1 ? 36 : 195);
         }
     }
 
     private static void objectsAreApart() {
-        KeyCustody one = Check.founded();
+        KeyCustody one = Check.busy();
         KeyCustody other = new KeyCustody();
         CHECK.due("about(0) of another", other.about(0), 0);
         other.group(23, 11, 2);
         other.found(1, 1, 1, 1);
-        CHECK.due("share(1) of the first", one.share(1), 60);
+        other.deal(1, 1, 1, 1);
+        other.close();
+        CHECK.alike("with another object beside it", one, Check.busy());
     }
 }

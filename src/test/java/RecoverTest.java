@@ -94,6 +94,17 @@ public final class RecoverTest {
         CHECK.refused("with three", Check.NOT_NOW, () -> wiped(1, 2, 3, 4), "recover", 1);
         CHECK.refused("with three", Check.NOT_NOW, () -> wiped(4, 5, 6, 7), "recover", 7);
         CHECK.refused("with none", Check.NOT_NOW, () -> wiped(1, 2, 3, 4, 5, 6, 7), "recover", 7);
+        CHECK.refused("with three and the key 0", Check.NOT_NOW, RecoverTest::threeWithTheKey0, "recover", 1);
+    }
+
+    /** With the key 0, a seat 0 that there isn't would fit the sums. */
+    private static KeyCustody threeWithTheKey0() {
+        KeyCustody x = Check.grouped();
+        x.found(0, 5, 6, 7);
+        for (int seat = 1; seat <= 4; seat++) {
+            x.wipe(seat);
+        }
+        return x;
     }
 
     /** Seat 2 has a share of one more than the right one; seats 2 and 4 would have 93. */
